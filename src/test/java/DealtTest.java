@@ -31,6 +31,7 @@ public final class DealtTest {
         check.due("by STOCK alone", Check.onStreet("l50;p99").calm(9, 0), 0);
         check.due("by far more", Check.onStreet("l01;p10;b90;b90;b90;b90;b90").calm(1, 0), -9);
         check.due("each its own", Check.onStreet("l01;p10;b90;b90;b90;b90;b90").calm(1, 8), 5);
+        check.due("by a large crate", Check.onStreet("l00;p10;p10;b30;b42;t40;p10;p12;b05").calm(4, 0), 48);
         check.due("the mild one too", Check.onStreet("l01;p70;b90;b90;b90;b90;b90").calm(1, 7), -9);
     }
 
@@ -48,8 +49,22 @@ public final class DealtTest {
         check.due("wonder(1) by 99", x.wonder(1), -9);
         check.due("wonder(2)", x.wonder(2), -2);
         check.due("wonder(-1)", x.wonder(-1), -2);
+        aWonder("l00;p19;t20;b03;t20;p06", 0, 4, 0);
+        aWonder("l98;b20;b20;p06;p20;p10", 98, 98, 4);
+        x = Check.onStreet("l99;t01;b10;b20;b20;b07;p00");
+        check.due("99 is beyond, though 100 would deal fewer", x.wonder(0), -9);
+        check.due("99 is beyond, the house", x.wonder(1), -9);
+        check.due("none of eight is dealt fewer", Check.onStreet("l00" + ";b90".repeat(8)).wonder(0), -9);
         check.due("none is dealt fewer", Check.onStreet("l00;p10;p10").wonder(0), -9);
         check.due("wonder(2) without a street", new LemonDeals().wonder(2), -3);
+    }
+
+    private static void aWonder(String text, int from, int crate, int house) {
+        LemonDeals x = Check.onStreet(text);
+        check.due("wonder(0) of " + text, x.wonder(0), crate);
+        check.due("wonder(1) of " + text, x.wonder(1), house);
+        check.holds("it is dealt fewer", x.deal(house, crate) == x.deal(house, crate + 1) + 1);
+        check.due("CRATE stays", x.many(1), from);
     }
 
     private static void otherwise() {
@@ -69,6 +84,10 @@ public final class DealtTest {
         check.due("otherwise(-1)", x.otherwise(-1), -1);
         check.due("no SOUR", Check.onStreet("l99;p00").otherwise(0), 0);
         check.due("without a street", new LemonDeals().otherwise(0), -1);
+        x = Check.onStreet("l20" + ";b90".repeat(8));
+        for (int k = 0; k < 8; k++) {
+            check.due("eight alike: " + k, x.otherwise(k), k < 4 ? 3 : 2);
+        }
         LemonDeals y = Check.onStreet("l08;p90;p10");
         check.due("otherwise than the DEAL", y.otherwise(0), 8);
         check.due("the DEAL", y.deal(0, 8), 7);

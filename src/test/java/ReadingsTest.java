@@ -7,6 +7,7 @@ public final class ReadingsTest {
         back();
         withoutReadings();
         whatFollows();
+        ofEight();
         crateAsItIs();
         odds();
         check.end("ReadingsTest");
@@ -88,6 +89,17 @@ public final class ReadingsTest {
         check.due("none: crates(0)", x.crates(0), 0);
         check.due("none: crates(1)", x.crates(1), -9);
         check.due("none: crates(2)", x.crates(2), -9);
+    }
+
+    private static void ofEight() {
+        LemonDeals x = Check.onStreet("l20" + ";b90".repeat(8));
+        for (int k = 0; k < 8; k++) {
+            x.reading(k, k < 4 ? 3 : 2);
+        }
+        check.due("CRATES of eight", x.crates(0), 1);
+        check.due("the one", x.crates(1), 20);
+        check.due("KINDS of the last", x.kinds(7), 4);
+        check.due("TEMPERS of the last", x.tempers(7), 1 << 6 | 1 << 7 | 1 << 8 | 1 << 9);
     }
 
     private static void crateAsItIs() {

@@ -20,9 +20,11 @@ public final class SheetsTest {
         LemonDeals x = new LemonDeals();
         check.withoutFault(x, "sheet(0, 0, 60)", x.sheet(0, 0, 60), 1);
         check.due("the last cell", x.cell(0, 59, 0), 0);
+        x.put(0, 0, 7);
         x.put(0, 3, 7);
         check.due("a new row", x.sheet(0, 0, 5), 1);
         check.due("a new row is of 0", x.cell(0, 3, 0), 0);
+        check.due("a new row is of 0, the first", x.cell(0, 0, 0), 0);
         check.due("a shorter row", x.cell(0, 5, 0), LOST);
         check.due("another lane", x.sheet(0, 2, 0), 1);
         check.due("it is there", x.lose(0), 1);
@@ -202,6 +204,51 @@ public final class SheetsTest {
         check.due("fault() again", x.fault(), 2);
         x.put(9, 0, 0);
         check.due("fault() behind one that was refused", x.fault(), 0);
+        behindAFault(x, "street");
+        behindAFault(x, "season");
+        behindAFault(x, "sheet");
+        behindAFault(x, "put");
+        behindAFault(x, "cell");
+        behindAFault(x, "copy");
+        behindAFault(x, "as");
+    }
+
+    /** Each call that names faults, behind a fault: as it should be, and refused. */
+    private static void behindAFault(LemonDeals x, String name) {
+        for (int sheet = 0; sheet <= 4; sheet += 4) {
+            x.as(0, 2);
+            check.due("a fault ahead of " + name, x.fault(), 2);
+            callNamed(x, name, sheet);
+            check.due("fault() behind " + name + " of " + sheet, x.fault(), 0);
+        }
+    }
+
+    private static void callNamed(LemonDeals x, String name, int k) {
+        Check.write(x, 0, 0, 1, 2, 3);
+        x.as(0, 2);
+        switch (name) {
+            case "street":
+                x.street(k, 0, 0, 3);
+                break;
+            case "season":
+                x.season(k, 0, 0, 0, 0);
+                break;
+            case "sheet":
+                x.sheet(k, 0, 2);
+                break;
+            case "put":
+                x.put(k, 0, 2);
+                break;
+            case "cell":
+                x.cell(k, 0, 0);
+                break;
+            case "copy":
+                x.copy(0, 0, k, 1, 2);
+                break;
+            default:
+                x.as(k, 0);
+                break;
+        }
     }
 
     private static void many() {

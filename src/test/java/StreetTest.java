@@ -194,6 +194,11 @@ public final class StreetTest {
         x = Check.onStreet("l50;p00;p05");
         check.due("no SOUR, house 0", x.deal(0, 50), 0);
         check.due("no SOUR, house 1", x.deal(1, 99), 0);
+        check.due("SOUR of 1 alone", Check.onStreet("l00;p00;t00").deal(1, 5), 5);
+        x = Check.onStreet("l20" + ";b90".repeat(8));
+        for (int k = 0; k < 8; k++) {
+            check.due("eight alike: " + k, x.deal(k, 20), k < 4 ? 3 : 2);
+        }
         x = Check.onStreet("l03;p00;p10;p10");
         check.due("a mild one gets none", x.deal(0, 3), 0);
         check.due("the least of equal remainders", x.deal(1, 3), 2);

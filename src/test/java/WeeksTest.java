@@ -8,6 +8,7 @@ public final class WeeksTest {
         refusedWeeks();
         gifts();
         seasons();
+        eightHouses();
         wrongSeasons();
         refusedSeasons();
         refusedPairs();
@@ -66,6 +67,13 @@ public final class WeeksTest {
         check.due("gift(-1)", x.gift(-1), -1);
         check.due("gift without a street", new LemonDeals().gift(0), -1);
         check.due("no week goes by", x.many(2), 0);
+        x = Check.onStreet("l00;p00;p01;p00");
+        check.due("gift(1) of three", x.gift(1), 0);
+        check.due("it goes to the next", x.ofHouse(2, 2), 1);
+        check.due("it goes nowhere else", x.ofHouse(0, 2), 0);
+        x = Check.onStreet("l08" + ";p11".repeat(8));
+        check.due("gift(7) of eight", x.gift(7), 0);
+        check.due("to house 0", x.ofHouse(0, 2), 2);
         x = Check.onStreet("l00;p03");
         check.due("a gift to oneself", x.gift(0), 3);
     }
@@ -109,9 +117,25 @@ public final class WeeksTest {
         check.due("STOCK stays", x.ofHouse(3, 2), 2);
         check.due("TEMPER stays", x.ofHouse(0, 1), 4);
         check.due("PIPS stay", x.ofHouse(2, 3), 0);
+        Check.write(x, 1, 0, 1, 0, 5, 5);
+        check.due("a wrong pair behind the season", x.season(1, 0, 0, 1, 4), 3);
+        Check.write(x, 1, 0, 1, 0, 0, 1);
+        check.due("an act that can't be behind it", x.season(1, 0, 0, 1, 1), -9);
         Check.write(x, 1, 0, 77, 1, 0, 1, 0);
         check.due("pairs from 1 on", x.season(1, 0, 1, 2, 4), 6);
         check.due("pairs from 3 on", x.season(1, 0, 3, 1, 4), 3);
+    }
+
+    private static void eightHouses() {
+        LemonDeals x = Check.onStreet("l08" + ";p11".repeat(8));
+        season(x, new int[] {1, 0}, 0, 8);
+        season(x, new int[] {1, 0}, 2, 0);
+        season(x, new int[] {1, 0}, 4, 8);
+        season(x, new int[] {1, 0}, 17, 0);
+        season(x, new int[] {7, 1, 0, 1}, 0, 8);
+        season(x, new int[] {7, 1, 7, 1}, 1, 1);
+        check.due("weeks of eight", x.weeks(2), 8);
+        check.due("calm of eight", x.calm(12, 9), 0);
     }
 
     private static void wrongSeasons() {
