@@ -2,12 +2,30 @@
 final class Check {
     private int wrong = 0;
     private int told = 0;
+    private int sentences = 0;
+    private String sentence = "";
+
+    /** A sentence of the document (its part or promise ahead of it) and the test of its own. */
+    void sentence(String words, Runnable test) {
+        sentences++;
+        sentence = "[" + words + "] ";
+        test.run();
+        sentence = "";
+    }
 
     void due(String call, long got, long want) {
         told++;
         if (got != want) {
             wrong++;
-            System.out.println(call + " answered " + got + ", due is " + want);
+            System.out.println(sentence + call + " answered " + got + ", due is " + want);
+        }
+    }
+
+    void same(String what, String got, String want) {
+        told++;
+        if (!got.equals(want)) {
+            wrong++;
+            System.out.println(sentence + what + ":\n  is     " + got + "\n  due is " + want);
         }
     }
 
@@ -28,7 +46,8 @@ final class Check {
     }
 
     void end(String name) {
-        System.out.println(name + ": " + told + " answers, " + wrong + " not as due");
+        String by = sentences == 0 ? "" : sentences + " sentences, ";
+        System.out.println(name + ": " + by + told + " answers, " + wrong + " not as due");
         if (wrong != 0) {
             System.exit(1);
         }
