@@ -193,11 +193,16 @@ public final class BoundsTest {
             check.due("WEEK", x.many(2), 61);
             check.due("PIPS", x.ofHouse(0, 3), 61);
         });
-        check.sentence("7: none is without STOCK, all are", () -> {
-            check.due("none", Check.onStreet("l99" + EIGHT_ALIKE).weeks(1), 0);
-            check.due("all", Check.onStreet("l00" + EIGHT_ALIKE).weeks(1), 8);
-            check.due("all by one each", Check.onStreet("l08" + EIGHT_ALIKE).weeks(1), 8);
-            check.due("all but one", Check.onStreet("l09" + EIGHT_ALIKE).weeks(1), 7);
+        check.sentence("7, 30: none is without STOCK, some are, all are", () -> {
+            int[][] want = {{99, 0}, {16, 0}, {15, 1}, {9, 7}, {8, 8}, {0, 8}};
+            for (int[] row : want) {
+                LemonDeals x = Check.onStreet("l00" + EIGHT_ALIKE);
+                check.due("many(3) ahead", x.many(3), 8);
+                x.crate(row[0]);
+                check.due("weeks(1) by " + row[0], x.weeks(1), row[1]);
+                check.due("many(3) by " + row[0], x.many(3), row[1]);
+            }
+            check.due("many(3) of one with STOCK", Check.onStreet("l00;p01").many(3), 0);
         });
     }
 
@@ -419,6 +424,18 @@ public final class BoundsTest {
             x.crate(99);
             check.due("wonder(0) of 99", x.wonder(0), NONE);
             check.due("wonder(1) of 99", x.wonder(1), NONE);
+            x = Check.onStreet("l99;t01;b10;b20;b20;b07;p00");
+            check.due("99, though by 100 one gets fewer", x.wonder(0), NONE);
+            check.due("99, though by 100 one gets fewer", x.wonder(1), NONE);
+        });
+        check.sentence("11: a HOUSE: the first, the last of eight", () -> {
+            LemonDeals x = Check.onStreet("l00;p19;t20;b03;t20;p06");
+            check.due("wonder(0)", x.wonder(0), 4);
+            check.due("wonder(1)", x.wonder(1), 0);
+            check.due("fewer", x.deal(0, 4) - x.deal(0, 5), 1);
+            x = Check.onStreet("l03;p00;p00;p00;p00;p00;p60;p60;p20");
+            check.due("wonder(0)", x.wonder(0), 3);
+            check.due("wonder(1)", x.wonder(1), 7);
         });
         check.sentence("11: the least such HOUSE", () -> {
             LemonDeals x = Check.onStreet("l10;t90;p63;p90;t50;t10;t62;t00;t11");
@@ -495,6 +512,7 @@ public final class BoundsTest {
             halves("l00;b90;p10;p10", 1, 18);
             halves("l00;p10;b90;p10", 5, 18);
             halves("l00;p10;p10;p10;p10;p10;p10;p10;b90", 127, 13);
+            halves("l00;p10;p10;p40;p20", 11, 0);
         });
     }
 

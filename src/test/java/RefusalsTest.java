@@ -139,7 +139,8 @@ public final class RefusalsTest {
             faulted(p + ": CAST", CAST, "street", sheet, last, 0, 7);
             faulted(p + ": nothing is no CAST: NULL", NULL, "street", 3, sheet, 0, 7);
             faultedEach(p + ": SIZE: n below 0", SIZE, 3, new int[] {-1, -7, LEAST}, "street", sheet, sheet, 0, 7);
-            faultedEach(p + ": INDEX: i", INDEX, 2, new int[] {-1, 5, 11, 12, LEAST, MOST}, "street", sheet, sheet, 0, 7);
+            faultedEach(p + ": INDEX: i", INDEX, 2, new int[] {-1, 5, 11, 12, LEAST, MOST},
+                "street", sheet, sheet, 0, 7);
             faultedEach(p + ": INDEX: n", INDEX, 3, new int[] {12, MOST}, "street", sheet, sheet, 0, 7);
             faultedEach(p + ": INDEX, if none is taken, too", INDEX, 2, new int[] {-1, 12, LEAST, MOST},
                 "street", sheet, sheet, 0, 0);
@@ -209,7 +210,8 @@ public final class RefusalsTest {
             faulted("9: CAST", CAST, "season", sheet, (sheet + 1) % 3, 7, 2, 0);
             faulted("9: CAST", CAST, "season", sheet, (sheet + 2) % 3, 7, 2, 0);
             faulted("9: nothing is no CAST: NULL", NULL, "season", 3, sheet, 7, 2, 0);
-            faultedEach("9: INDEX: i", INDEX, 2, new int[] {-1, 8, 11, 12, LEAST, MOST}, "season", sheet, sheet, 7, 2, 0);
+            faultedEach("9: INDEX: i", INDEX, 2, new int[] {-1, 8, 11, 12, LEAST, MOST},
+                "season", sheet, sheet, 7, 2, 0);
             faultedEach("9: INDEX: 2 n", INDEX, 3, new int[] {3, 20}, "season", sheet, sheet, 7, 2, 0);
             faulted("9: INDEX: half a pair", INDEX, "season", sheet, sheet, 10, 1, 0);
             faultedEach("9: INDEX, if none is taken, too", INDEX, 2, new int[] {-1, 12, LEAST, MOST},
@@ -244,13 +246,15 @@ public final class RefusalsTest {
 
     /** House 3 has no stock, so that a gift of it is an act that can't be. */
     private static void pairs() {
-        ofPairs("9: OUTSIDE: the second is none of 0 .. 2", OUTSIDE, new int[][] {{0, 3}, {0, -1}, {0, 127}, {0, -128}});
+        ofPairs("9: OUTSIDE: the second is none of 0 .. 2", OUTSIDE,
+            new int[][] {{0, 3}, {0, -1}, {0, 127}, {0, -128}});
         ofPairs("9: OUTSIDE: it is 0 and the first is not 0 .. 9", OUTSIDE, new int[][] {{10, 0}, {-1, 0}, {127, 0}});
         ofPairs("9: OUTSIDE: it is 2 and the first is not 0 .. 99", OUTSIDE, new int[][] {{100, 2}, {-1, 2}, {127, 2}});
         ofPairs("9: UNKNOWN: the first is no HOUSE", UNKNOWN, new int[][] {{4, 1}, {-1, 1}, {7, 1}, {8, 1}, {127, 1}});
         ofPairs("9: the first pair that has any", UNKNOWN, new int[][] {{4, 1, 0, 3}, {1, 0, 4, 1, 10, 0}});
         ofPairs("9: the first pair that has any", OUTSIDE, new int[][] {{0, 3, 4, 1}, {10, 0, 4, 1}, {100, 2, 4, 1}});
-        ofPairs("9: all of them, ahead of any act", OUTSIDE, new int[][] {{3, 1, 0, 3}, {3, 1, 1, 0, 10, 0}, {3, 1, 100, 2}});
+        ofPairs("9: all of them, ahead of any act", OUTSIDE,
+            new int[][] {{3, 1, 0, 3}, {3, 1, 1, 0, 10, 0}, {3, 1, 100, 2}});
         ofPairs("9: all of them, ahead of any act", UNKNOWN, new int[][] {{3, 1, 4, 1}});
         ofPairs("9: the second's OUTSIDE, though the first is no HOUSE", OUTSIDE, new int[][] {{4, 3}, {-1, -1}});
         int[] last = new int[40];
@@ -392,11 +396,29 @@ public final class RefusalsTest {
             faulted("24: CAST ahead of INDEX: i", CAST, "copy", sheet, -1, (sheet + 1) % 3, 1, 3);
             faulted("24: CAST ahead of INDEX: n", CAST, "copy", sheet, 0, (sheet + 1) % 3, 1, -1);
         }
+        check.sentence("24: NULL ahead of CAST: nothing has no LANE, whatever it had", RefusalsTest::copyOfWhatWasLost);
         refused("24: UNKNOWN: the other, ahead of NULL: the first", UNKNOWN, "copy", 3, 0, 4, 1, 3);
         refused("24: UNKNOWN: the one, ahead of NULL: the other", UNKNOWN, "copy", 4, 0, 3, 1, 3);
         refused("24: UNKNOWN ahead of INDEX", UNKNOWN, "copy", 0, -1, 4, -1, -1);
         faulted("24: NULL: the first, ahead of INDEX", NULL, "copy", 3, -1, 0, 1, 3);
         faulted("24: NULL: the other, ahead of INDEX", NULL, "copy", 0, 0, 3, -1, -1);
+    }
+
+    private static void copyOfWhatWasLost() {
+        for (int lane = 0; lane < 3; lane++) {
+            for (int lost = 0; lost < 3; lost++) {
+                LemonDeals x = begun();
+                x.sheet(3, lost, 11);
+                x.lose(3);
+                check.faults(x, "copy from it to lane " + lane, x.copy(3, 0, lane, 0, 1), NULL);
+                check.faults(x, "copy to it from lane " + lane, x.copy(lane, 0, 3, 0, 1), NULL);
+                check.faults(x, "its TEXT of lane " + lane, x.street(3, lane, 0, 7), NULL);
+                check.faults(x, "its SEASON of lane " + lane, x.season(3, lane, 7, 2, 0), NULL);
+                check.faults(x, "a cell put to it", x.put(3, 0, 1), NULL);
+                check.due("a cell of it in lane " + lane, x.cell(3, 0, lane), Long.MIN_VALUE);
+                check.due("fault() behind it", x.fault(), NULL);
+            }
+        }
     }
 
     // ---- promises 25 to 30

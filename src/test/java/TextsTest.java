@@ -127,7 +127,8 @@ public final class TextsTest {
     private static void firstOfSeveral() {
         check.due("two wrong ones", taken(0, Check.codes("l0x;x60")), -102);
         check.due("a wrong one, and it ends too soon", taken(0, Check.codes("l0x;p6")), -102);
-        check.due("a wrong one ahead of a ninth HOUSE", taken(0, Check.codes("l00" + ";p60".repeat(7) + ";p6x;")), -134);
+        int[] both = Check.codes("l00" + ";p60".repeat(7) + ";p6x;");
+        check.due("a wrong one ahead of a ninth HOUSE", taken(0, both), -134);
         check.due("all wrong", taken(0, 0, 0, 0), -100);
     }
 
